@@ -121,10 +121,7 @@ public final class BenchRuns {
     }
 
     public int places(int what) {
-        if (!within(what, OF_RACK, OF_FIRST_ROW)) {
-            return OUTSIDE;
-        }
-        return what == OF_FIRST_ROW ? stock.firstRowSize() : stock.sizeOf(what);
+        return within(what, OF_RACK, OF_FIRST_ROW) ? stock.sizeOf(what) : OUTSIDE;
     }
 
     public int box(int i) {
@@ -504,14 +501,18 @@ public final class BenchRuns {
         }
 
         int sizeOf(int what) {
-            if (what == OF_RACK) {
-                return rackSize;
+            switch (what) {
+                case OF_RACK:
+                    return rackSize;
+                case OF_BOX:
+                    return boxSize;
+                case OF_GRID:
+                    return gridRows;
+                case OF_FIRST_ROW:
+                    return gridRows > 0 ? gridRowSize : NONE;
+                default:
+                    return NONE;
             }
-            return what == OF_BOX ? boxSize : gridRows;
-        }
-
-        int firstRowSize() {
-            return gridRows > 0 ? gridRowSize : NONE;
         }
     }
 

@@ -65,6 +65,11 @@ public final class StepKindsTest {
         DUE.due("POUR above 1000: to", x.drops(1), 1000);
         DUE.due("POUR into itself", runOn(x, 0, 900, 3, 0), 1);
         DUE.due("POUR into itself: drops", x.drops(0), 900);
+        DUE.due("POUR into itself, then ADD", runOn(x, 0, 900, 3, 0, 0, 1), 1);
+        DUE.due("POUR into itself, then ADD: drops", x.drops(0), 901);
+        DUE.due("POUR, then ADD", runOn(x, 0, 900, 3, 2, 0, 1), 1);
+        DUE.due("POUR, then ADD: from", x.drops(0), 1);
+        DUE.due("POUR, then ADD: to", x.drops(2), 900);
         dueFailure("POUR to 8", x, runOn(x, 0, 900, 3, 8), 4, 104);
         dueFailure("POUR to 9", x, runOn(x, 0, 900, 3, 9), 4, 104);
         dueFailure("POUR to one that is not there", x, runOn(x, 0, 900, 3, 7), 5, 105);
@@ -84,6 +89,10 @@ public final class StepKindsTest {
         DUE.dueRow("SKIP: trace", Due.traces(x), 1, 3, 5, 6, 5, 6, 4, 3, 5, 6, 4, 2);
         DUE.due("LACK of fewer", runOn(x, 0, 9, 8, 10, 0, 100), 1);
         DUE.due("LACK of fewer: drops", x.drops(0), 9);
+        Due.round(x, 0, 1, 0, 30);
+        DUE.due("LACK, then another round", x.run(0, 0, false), 1);
+        DUE.due("LACK, then another round: drops(0)", x.drops(0), 9);
+        DUE.due("LACK, then another round: drops(1)", x.drops(1), 32);
         DUE.due("LACK of as many", runOn(x, 0, 10, 8, 10, 0, 100), 1);
         DUE.due("LACK of as many: drops", x.drops(0), 110);
         DUE.due("LACK 0", runOn(x, 0, 0, 8, 0, 0, 100), 1);
