@@ -2,12 +2,37 @@
 final class Due {
     private int asked = 0;
     private int wrong = 0;
+    private String sentence = "";
+    private int sentences = 0;
+    private int askedBefore = 0;
+
+    /** What is asked from here on belongs to this sentence of the document, and is printed with it. */
+    void sentence(String quoted) {
+        closeSentence();
+        sentence = "\"" + quoted + "\" ";
+        sentences++;
+        askedBefore = asked;
+    }
+
+    /** As above, of one case among several that the sentence names. */
+    void sentence(String quoted, String which) {
+        sentence(quoted);
+        sentence += "(" + which + ") ";
+    }
+
+    /** A sentence that nothing is asked of would look as if it held. */
+    private void closeSentence() {
+        if (sentences > 0 && asked == askedBefore) {
+            wrong++;
+            System.out.println(sentence + "was not asked for");
+        }
+    }
 
     void due(String call, int got, int want) {
         asked++;
         if (got != want) {
             wrong++;
-            System.out.println(call + " answered " + got + ", due is " + want);
+            System.out.println(sentence + call + " answered " + got + ", due is " + want);
         }
     }
 
@@ -19,7 +44,9 @@ final class Due {
     }
 
     void end() {
-        System.out.println(asked + " answers, " + wrong + " not as due");
+        closeSentence();
+        String of = sentences == 0 ? "" : " on " + sentences + " sentences";
+        System.out.println(asked + " answers" + of + ", " + wrong + " not as due");
         if (wrong != 0 || asked == 0) {
             System.exit(1);
         }
